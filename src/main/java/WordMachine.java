@@ -347,7 +347,7 @@ public final class WordMachine {
     }
 
     private int valueX(int w) {
-        return registers[(w >>> 15) & 31];
+        return registers[fieldX(w)];
     }
 
     private int valueY(int w) {
@@ -412,7 +412,7 @@ public final class WordMachine {
         }
     }
 
-    // ---- the fields of a word
+    // ---- the fields of a word: D, X and Y have 5 bits, so each is a register that there is
 
     private static int fieldOp(int w) {
         return w & 127;
@@ -424,6 +424,10 @@ public final class WordMachine {
 
     private static int fieldT(int w) {
         return (w >>> 12) & 7;
+    }
+
+    private static int fieldX(int w) {
+        return (w >>> 15) & 31;
     }
 
     private static int fieldY(int w) {
