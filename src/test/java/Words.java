@@ -51,4 +51,21 @@ final class Words {
         }
         return m;
     }
+
+    /** One step was done and PC is 4, where words start; no register but 0 is 0, and bytes at both ends are not 0. */
+    static WordMachine busy(int... words) {
+        WordMachine m = machine(jump(0, 4));
+        for (int w : words) {
+            m.word(w);
+        }
+        for (int r = 1; r < 32; r++) {
+            m.put(r, r * 0x1F2E3D4C + 1);
+        }
+        for (int k = 0; k < 16; k++) {
+            m.poke(k, 0x71 + k);
+            m.poke(4080 + k, 0xE8 + k);
+        }
+        m.run(1);
+        return m;
+    }
 }
