@@ -1,21 +1,63 @@
 import java.math.BigInteger;
+import java.util.ArrayList;
+import java.util.List;
 
 /** The document's machine once more, in another way: words as texts of bits, numbers as BigIntegers, bytes. */
 final class Model {
     private static final BigInteger TWO_TO_32 = BigInteger.ONE.shiftLeft(32);
 
-    final int[] registers = new int[32];
-    final int[] bytes = new int[4096];
-    private final int[] code;
-    int pc = 0;
-    int steps = 0;
+    private final List<Integer> code = new ArrayList<>();
+    private final int[] registers = new int[32];
+    private final int[] bytes = new int[4096];
+    private int pc = 0;
+    private int steps = 0;
     private String bits = "";
 
-    Model(int[] code) {
-        this.code = code;
+    int word(int w) {
+        return code.size() < 1024 && code.add(w) ? code.size() : -1;
+    }
+
+    boolean put(int r, int v) {
+        boolean is = big(r).signum() >= 0 && big(r).bitLength() <= 5;
+        if (is && r != 0) {
+            registers[r] = v;
+        }
+        return is;
+    }
+
+    int get(int r) {
+        return big(r).signum() >= 0 && big(r).bitLength() <= 5 ? registers[r] : 0;
+    }
+
+    boolean poke(int a, int v) {
+        boolean is = lies(a, 1);
+        if (is) {
+            bytes[a] = big(v).mod(big(256)).intValue();
+        }
+        return is;
+    }
+
+    int peek(int a) {
+        return lies(a, 1) ? bytes[a] : -1;
+    }
+
+    boolean go(int a) {
+        pc = a % 4 == 0 ? a : pc;
+        return a % 4 == 0;
+    }
+
+    int pc() {
+        return pc;
+    }
+
+    int steps() {
+        return steps;
     }
 
     int run(int n) {
+        if (Math.abs(n - 500L) > 500) {
+            return -1;
+        }
         for (int i = 0; i < n; i++) {
             int why = step();
             steps += why < 2 ? 1 : 0;
@@ -28,10 +70,10 @@ final class Model {
     }
 
     private int step() {
-        if (pc % 4 != 0 || pc < 0 || pc >= 4L * code.length) {
+        if (pc % 4 != 0 || pc < 0 || pc >= 4L * code.size()) {
             return 2;
         }
-        int w = code[pc / 4];
+        int w = code.get(pc / 4);
         bits = new StringBuilder(String.format("%32s", Integer.toBinaryString(w)).replace(' ', '0')).reverse().toString();
         int x = registers[(int) number(15, 19)];
         int y = registers[(int) number(20, 24)];

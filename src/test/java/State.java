@@ -10,13 +10,18 @@ final class State {
         long on(WordMachine m);
     }
 
+    /** What a call is due to change: it is done to the state before the call. */
+    interface Change {
+        void on(State before);
+    }
+
     private static final int BYTES_AT_ONCE = 256;
 
-    private final int[] registers = new int[32];
-    private final int[] bytes = new int[4096];
-    private final int pc;
-    private final int steps;
-    private final int words;
+    final int[] registers = new int[32];
+    final int[] bytes = new int[4096];
+    int pc;
+    int steps;
+    int words;
 
     private State(Story story) {
         WordMachine m = story.told();
@@ -36,25 +41,34 @@ final class State {
 
     /** The call answers what is due, and nothing is done. */
     static void nothingDone(Due due, String name, Story story, Call call, long want) {
-        onlyPcAndSteps(due, name, story, call, want, 0, 0);
+        onlyThisDone(due, name, story, call, want, before -> { });
     }
 
     /** The call answers what is due; PC and the steps go on by so many, and nothing else is done. */
     static void onlyPcAndSteps(Due due, String name, Story story, Call call, long want, int byPc, int bySteps) {
-        State before = new State(story);
+        onlyThisDone(due, name, story, call, want, before -> {
+            before.pc += byPc;
+            before.steps += bySteps;
+        });
+    }
+
+    /** The call answers what is due; the change is done, and nothing else. */
+    static void onlyThisDone(Due due, String name, Story story, Call call, long want, Change change) {
+        State expected = new State(story);
+        change.on(expected);
         State after = new State(() -> {
             WordMachine m = story.told();
             due.is(name, call.on(m), want);
             return m;
         });
-        due.is(name + ", then pc()", after.pc, before.pc + byPc);
-        due.is(name + ", then steps()", after.steps, before.steps + bySteps);
-        due.is(name + ", then the words of code", after.words, before.words);
-        for (int r = 0; r < before.registers.length; r++) {
-            due.is(name + ", then get(" + r + ")", after.registers[r], before.registers[r]);
+        due.is(name + ", then pc()", after.pc, expected.pc);
+        due.is(name + ", then steps()", after.steps, expected.steps);
+        due.is(name + ", then the words of code", after.words, expected.words);
+        for (int r = 0; r < expected.registers.length; r++) {
+            due.is(name + ", then get(" + r + ")", after.registers[r], expected.registers[r]);
         }
-        for (int a = 0; a < before.bytes.length; a++) {
-            due.is(name + ", then peek(" + a + ")", after.bytes[a], before.bytes[a]);
+        for (int a = 0; a < expected.bytes.length; a++) {
+            due.is(name + ", then peek(" + a + ")", after.bytes[a], expected.bytes[a]);
         }
     }
 }
